@@ -25,8 +25,4 @@ final class Make {
         }
         return number;
     }
-
-    static String repeated(String part, int times) {
-        return part.repeat(times);
-    }
 }
