@@ -645,10 +645,9 @@ public final class BackwardSearch {
         }
     }
 
-    /** The recorded states, in a ring, so that the oldest one is the one written over. */
+    /** The recorded states, the latest one last; the ones that are free stand ahead of them. */
     private static final class History {
         private final State[] kept = new State[MOST_RECORDED];
-        private int next;
         private int count;
 
         History() {
@@ -661,17 +660,26 @@ public final class BackwardSearch {
             return count;
         }
 
+        /** The first one is free, or else the oldest one, which is to be dropped. */
         void keep(State state) {
-            kept[next].copy(state);
-            next = next + 1 < MOST_RECORDED ? next + 1 : 0;
-            count = Math.min(count + 1, MOST_RECORDED);
+            State first = kept[0];
+            for (int i = 1; i < kept.length; i++) {
+                kept[i - 1] = kept[i];
+            }
+            kept[kept.length - 1] = first;
+            first.copy(state);
+            count = Math.min(count + 1, kept.length);
         }
 
         void giveBack(State into) {
             if (count > 0) {
-                next = next > 0 ? next - 1 : MOST_RECORDED - 1;
+                State last = kept[kept.length - 1];
+                for (int i = kept.length - 1; i > 0; i--) {
+                    kept[i] = kept[i - 1];
+                }
+                kept[0] = last;
+                into.copy(last);
                 count--;
-                into.copy(kept[next]);
             }
         }
     }

@@ -1,4 +1,4 @@
-/** Promises 1 to 8: a new object, and what changes it. */
+/** Promises 1 to 8: a new object, and what changes it; for the bounds see BoundsOfChangesTest. */
 public final class ChangesTest {
     private static final String UNTOUCHED = "found [] place 0 over false looks 0 compared 0 skipped 0";
 
@@ -8,20 +8,14 @@ public final class ChangesTest {
         ChangesTest test = new ChangesTest();
         test.newObject();
         test.takeLine();
-        test.takeLineAtTheLimits();
-        test.takeLineRefuses();
         test.takeWord();
-        test.takeWordAtTheLimits();
-        test.takeWordRefuses();
         test.setRules();
         test.rulesDecideTheSkip();
         test.lookThatFinds();
         test.lookThatDiffers();
-        test.lookRefuses();
         test.finish();
         test.rewind();
         test.setLetter();
-        test.setLetterRefuses();
         test.checks.end();
     }
 
@@ -55,32 +49,6 @@ public final class ChangesTest {
         checks.due("2: the rules stay", ruled.setRules(false, false), 1);
     }
 
-    private void takeLineAtTheLimits() {
-        BackwardSearch x = new BackwardSearch();
-        String longest = "abcdefghijklmnopqrstuvwxyz".repeat(2) + "zyxwvuts";
-        Make.append(x, longest);
-        checks.due("2: 60 letters", x.takeLine(), 60);
-        checks.due("2: all 60", Picture.line(x), longest);
-        checks.due("2: no text", x.takeLine(), 0);
-        checks.due("2: an empty line", Picture.line(x), "");
-    }
-
-    private void takeLineRefuses() {
-        BackwardSearch x = Make.search("abcab", "ab");
-        x.look();
-        Make.append(x, "a".repeat(61));
-        checks.badState("2: 61 letters", x, x::takeLine);
-        x.clearText();
-        Make.append(x, "abC");
-        checks.badState("2: an error", x, x::takeLine);
-        x.clearText();
-        Make.append(x, "b".repeat(79) + "!");
-        checks.badState("2: an error and too long", x, x::takeLine);
-        x.clearText();
-        Make.append(x, "ok");
-        checks.due("2: a right text behind the wrong ones", x.takeLine(), 2);
-    }
-
     private void takeWord() {
         BackwardSearch x = Make.search("aaaa", "aa");
         x.look();
@@ -99,30 +67,6 @@ public final class ChangesTest {
         x.setRules(false, true);
         x.takeWord();
         checks.due("3: the rules stay", x.setRules(false, false), 1);
-    }
-
-    private void takeWordAtTheLimits() {
-        BackwardSearch x = new BackwardSearch();
-        Make.append(x, "abcdefghijklmnoz");
-        checks.due("3: 16 letters", x.takeWord(), 16);
-        checks.due("3: all 16", Picture.word(x), "abcdefghijklmnoz");
-        checks.due("3: no text", x.takeWord(), 0);
-        checks.due("3: an empty word", Picture.word(x), "");
-    }
-
-    private void takeWordRefuses() {
-        BackwardSearch x = Make.search("abcab", "ab");
-        x.look();
-        Make.append(x, "a".repeat(17));
-        checks.badState("3: 17 letters", x, x::takeWord);
-        checks.due("3: but a line", x.takeLine(), 17);
-        Make.append(x, "{");
-        checks.badState("3: an error", x, x::takeWord);
-        Make.append(x, "b".repeat(20));
-        checks.badState("3: an error and too long", x, x::takeWord);
-        x.clearText();
-        Make.append(x, "ok");
-        checks.due("3: a right text behind the wrong ones", x.takeWord(), 2);
     }
 
     private void setRules() {
@@ -189,18 +133,6 @@ public final class ChangesTest {
         checks.due("5: the place", back.place(), 1);
     }
 
-    private void lookRefuses() {
-        BackwardSearch x = new BackwardSearch();
-        checks.badState("5: empty word", x, x::look);
-        BackwardSearch shortLine = Make.search("ab", "abc");
-        checks.badState("5: the word is longer", shortLine, shortLine::look);
-        BackwardSearch over = Make.search("ababab", "ab");
-        over.finish();
-        checks.badState("5: over", over, over::look);
-        BackwardSearch noWord = Make.search("ababab", "");
-        checks.badState("5: no word", noWord, noWord::look);
-    }
-
     private void finish() {
         BackwardSearch x = Make.search("abcabcab", "abc");
         checks.recorded("6: finish", x, () -> checks.due("6: two looks", x.finish(), 2));
@@ -250,18 +182,5 @@ public final class ChangesTest {
         x.setLetter(1, 1);
         checks.due("8: the same letter begins anew, too", Picture.ofSearch(x), UNTOUCHED);
         checks.due("8: the word stays", Picture.word(x), "za");
-    }
-
-    private void setLetterRefuses() {
-        BackwardSearch x = Make.search("abca", "a");
-        x.look();
-        checks.noSuchPlace("8: place -1", x, () -> x.setLetter(-1, 0));
-        checks.noSuchPlace("8: place 4", x, () -> x.setLetter(4, 0));
-        checks.noSuchPlace("8: a far place", x, () -> x.setLetter(Integer.MAX_VALUE, 0));
-        checks.noSuchPlace("8: place and letter", x, () -> x.setLetter(4, 26));
-        checks.badArgument("8: letter -1", x, () -> x.setLetter(0, -1));
-        checks.badArgument("8: letter 26", x, () -> x.setLetter(3, 26));
-        BackwardSearch empty = new BackwardSearch();
-        checks.noSuchPlace("8: an empty line", empty, () -> empty.setLetter(0, 0));
     }
 }

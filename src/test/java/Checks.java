@@ -8,6 +8,24 @@ final class Checks {
         this.name = name;
     }
 
+    /** Runs the test of one sentence of the document, which has to check something. */
+    void sentence(String words, Runnable test) {
+        int madeBefore = made;
+        int wrongBefore = wrong;
+        try {
+            test.run();
+        } catch (RuntimeException thrown) {
+            wrong++;
+            System.out.println(name + ": " + thrown);
+        }
+        if (made == madeBefore) {
+            wrong++;
+        }
+        if (wrong > wrongBefore) {
+            System.out.println(name + ": not held or not tested: " + words);
+        }
+    }
+
     void due(String what, long got, long want) {
         due(what, Long.toString(got), Long.toString(want));
     }

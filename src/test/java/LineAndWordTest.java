@@ -1,4 +1,4 @@
-/** Promises 9 to 12: the line and the word. */
+/** Promises 9 to 12: the line and the word; for the bounds see BoundsOfAnswersTest. */
 public final class LineAndWordTest {
     private final Checks checks = new Checks("LineAndWordTest");
 
@@ -6,7 +6,6 @@ public final class LineAndWordTest {
         LineAndWordTest test = new LineAndWordTest();
         test.lengths();
         test.letters();
-        test.noSuchLetter();
         test.checks.end();
     }
 
@@ -33,25 +32,5 @@ public final class LineAndWordTest {
         checks.due("12: the last letter", x.wordLetter(2), 0);
         x.setLetter(1, 4);
         checks.due("11: a changed letter", x.lineLetter(1), 4);
-    }
-
-    /** The longer line and word that were there before must not show through. */
-    private void noSuchLetter() {
-        BackwardSearch x = Make.search("abcdefgh", "efgh");
-        Make.append(x, "ab");
-        x.takeLine();
-        Make.append(x, "cde");
-        x.takeWord();
-        checks.noSuchPlace("11: place 2", x, () -> x.lineLetter(2));
-        checks.noSuchPlace("11: place -1", x, () -> x.lineLetter(-1));
-        checks.noSuchPlace("11: lowest", x, () -> x.lineLetter(Integer.MIN_VALUE));
-        checks.noSuchPlace("11: highest", x, () -> x.lineLetter(Integer.MAX_VALUE));
-        checks.noSuchPlace("12: place 3", x, () -> x.wordLetter(3));
-        checks.noSuchPlace("12: place -1", x, () -> x.wordLetter(-1));
-        checks.noSuchPlace("12: lowest", x, () -> x.wordLetter(Integer.MIN_VALUE));
-        checks.noSuchPlace("12: highest", x, () -> x.wordLetter(Integer.MAX_VALUE));
-        BackwardSearch empty = new BackwardSearch();
-        checks.noSuchPlace("11: an empty line", empty, () -> empty.lineLetter(0));
-        checks.noSuchPlace("12: an empty word", empty, () -> empty.wordLetter(0));
     }
 }

@@ -27,7 +27,8 @@ public final class ModelRunsTest {
     }
 
     private void go() {
-        for (int call = 0; call < CALLS; call++) {
+        int used = run % 2 == 0 ? 0 : begin();
+        for (int call = used; call < CALLS; call++) {
             int kind = below(100);
             if (kind < 25) {
                 text();
@@ -41,6 +42,37 @@ public final class ModelRunsTest {
                 asItIs();
             }
         }
+    }
+
+    /** Random texts seldom grow long, so that every second run begins near the limits. */
+    private int begin() {
+        int calls = appendAll(repeating(52 + below(10)));
+        same("takeLine()", x::takeLine, model::takeLine);
+        same("clearText()", x::clearText, model::clearText);
+        calls += appendAll(repeating(1 + below(17)));
+        same("takeWord()", x::takeWord, model::takeWord);
+        return calls + 3;
+    }
+
+    private int appendAll(String letters) {
+        int calls = 0;
+        for (int from = 0; from < letters.length(); from += 8) {
+            long eight = Make.packed(letters.substring(from, Math.min(from + 8, letters.length())));
+            same("appendText(" + eight + ")",
+                    () -> x.appendText(eight), () -> model.appendText(eight));
+            calls++;
+        }
+        return calls;
+    }
+
+    /** A few letters over and over, now and then with one that breaks the row. */
+    private String repeating(int count) {
+        StringBuilder letters = new StringBuilder(letters(1 + below(4)).repeat(count));
+        letters.setLength(count);
+        for (int broken = below(3); broken > 0; broken--) {
+            letters.setCharAt(below(count), (char) ('a' + below(4)));
+        }
+        return letters.toString();
     }
 
     /** The same numbers on every machine and day. */

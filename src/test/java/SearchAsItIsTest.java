@@ -1,4 +1,4 @@
-/** Promises 13 to 19: what the search tells of itself. */
+/** Promises 13 to 19: what the search tells of itself; for the bounds see BoundsOfAnswersTest. */
 public final class SearchAsItIsTest {
     private final Checks checks = new Checks("SearchAsItIsTest");
 
@@ -7,7 +7,6 @@ public final class SearchAsItIsTest {
         test.stepByStep();
         test.over();
         test.foundPlaces();
-        test.noSuchNumber();
         test.skippedPlaces();
         test.checks.end();
     }
@@ -66,18 +65,6 @@ public final class SearchAsItIsTest {
         most.finish();
         checks.due("17: sixty", most.foundCount(), 60);
         checks.due("18: the sixtieth", most.foundPlace(59), 59);
-    }
-
-    private void noSuchNumber() {
-        BackwardSearch x = Make.search("aabaabaa", "aa");
-        checks.noSuchPlace("18: none yet", x, () -> x.foundPlace(0));
-        x.finish();
-        checks.noSuchPlace("18: number 3", x, () -> x.foundPlace(3));
-        checks.noSuchPlace("18: number -1", x, () -> x.foundPlace(-1));
-        checks.noSuchPlace("18: highest", x, () -> x.foundPlace(Integer.MAX_VALUE));
-        checks.noSuchPlace("18: lowest", x, () -> x.foundPlace(Integer.MIN_VALUE));
-        x.rewind();
-        checks.noSuchPlace("18: forgotten", x, () -> x.foundPlace(0));
     }
 
     private void skippedPlaces() {

@@ -1,4 +1,4 @@
-/** Promises 20 to 25: what the word says of the skips, and how it repeats itself. */
+/** Promises 20 to 25: what the word says of the skips; for the bounds see BoundsOfAnswersTest. */
 public final class SkipsTest {
     private final Checks checks = new Checks("SkipsTest");
 
@@ -9,7 +9,6 @@ public final class SkipsTest {
         test.endSkips();
         test.bordersAndPeriods();
         test.oneWordBehindAnother();
-        test.refusals();
         test.manyWords();
         test.checks.end();
     }
@@ -98,25 +97,6 @@ public final class SkipsTest {
     private static void newWord(BackwardSearch x, String word) {
         Make.append(x, word);
         x.takeWord();
-    }
-
-    private void refusals() {
-        BackwardSearch x = Make.search("abc", "aba");
-        checks.noSuchPlace("21: place -1", x, () -> x.letterSkip(-1, 0));
-        checks.noSuchPlace("21: place 3", x, () -> x.letterSkip(3, 0));
-        checks.noSuchPlace("21: place and letter", x, () -> x.letterSkip(3, 26));
-        checks.badArgument("21: letter -1", x, () -> x.letterSkip(2, -1));
-        checks.badArgument("21: letter 26", x, () -> x.letterSkip(0, 26));
-        checks.noSuchPlace("22: place -1", x, () -> x.endSkip(-1));
-        checks.noSuchPlace("22: place 3", x, () -> x.endSkip(3));
-        checks.noSuchPlace("23: place -1", x, () -> x.endSkipByTrying(-1));
-        checks.noSuchPlace("23: place 3", x, () -> x.endSkipByTrying(3));
-        BackwardSearch empty = new BackwardSearch();
-        checks.noSuchPlace("21: an empty word", empty, () -> empty.letterSkip(0, 0));
-        checks.noSuchPlace("22: an empty word", empty, () -> empty.endSkip(0));
-        checks.noSuchPlace("23: an empty word", empty, () -> empty.endSkipByTrying(0));
-        checks.noSuchPlace("22: highest", empty, () -> empty.endSkip(Integer.MAX_VALUE));
-        checks.noSuchPlace("23: lowest", empty, () -> empty.endSkipByTrying(Integer.MIN_VALUE));
     }
 
     private void manyWords() {

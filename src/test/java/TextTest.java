@@ -1,16 +1,12 @@
-/** Promises 30 to 33: the text. */
+/** Promises 30 to 33: the text; for the bounds see BoundsOfTextTest. */
 public final class TextTest {
     private final Checks checks = new Checks("TextTest");
 
     public static void main(String[] args) {
         TextTest test = new TextTest();
         test.append();
-        test.everyCode();
-        test.appendRefuses();
-        test.appendAtTheLimit();
         test.lengthAndClear();
         test.error();
-        test.textIsNoState();
         test.checks.end();
     }
 
@@ -23,54 +19,6 @@ public final class TextTest {
         x.takeLine();
         checks.due("30: in their order", Picture.line(x), "abcdefghijkl");
         checks.due("30: not recorded", x.undoCount(), 1);
-    }
-
-    /** Each code alone, and in each of the eight groups with letters about it. */
-    private void everyCode() {
-        for (int code = 1; code < 256; code++) {
-            boolean good = code >= 33 && code <= 126;
-            appendsOrRefuses(code, good ? 1 : 0);
-            for (int group = 0; group < 8; group++) {
-                long about = Make.packed("aaaaaaaa") & ~(255L << (8 * group));
-                appendsOrRefuses(about | (long) code << (8 * group), good ? 8 : 0);
-            }
-        }
-    }
-
-    private void appendsOrRefuses(long characters, int length) {
-        BackwardSearch x = new BackwardSearch();
-        String what = "30: " + Long.toHexString(characters);
-        if (length > 0) {
-            checks.due(what, x.appendText(characters), length);
-        } else {
-            checks.badArgument(what, x, () -> x.appendText(characters));
-        }
-    }
-
-    private void appendRefuses() {
-        appendsOrRefuses(0L, 0);
-        appendsOrRefuses(-1L, 0);
-        appendsOrRefuses(Long.MIN_VALUE, 0);
-        appendsOrRefuses(Long.MAX_VALUE, 0);
-        appendsOrRefuses(Long.MIN_VALUE | 'a', 0);
-        appendsOrRefuses(0x6100L, 0);
-        appendsOrRefuses(0x610061L, 0);
-        appendsOrRefuses(0x0100000000000061L, 0);
-        appendsOrRefuses(0x6100616161616161L, 0);
-        appendsOrRefuses(0x0061616161616161L, 7);
-        appendsOrRefuses(0x7e21L, 2);
-    }
-
-    private void appendAtTheLimit() {
-        BackwardSearch x = new BackwardSearch();
-        Make.append(x, "a".repeat(73));
-        checks.badState("30: 81", x, () -> x.appendText(Make.packed("abcdefgh")));
-        checks.badArgument("30: a wrong code first", x, () -> x.appendText(Make.packed("abcd fgh")));
-        checks.due("30: 80", x.appendText(Make.packed("abcdefg")), 80);
-        checks.badState("30: one more", x, () -> x.appendText('a'));
-        checks.badArgument("30: none, with a full text", x, () -> x.appendText(0L));
-        checks.due("31: 80", x.clearText(), 80);
-        checks.due("30: from the beginning", x.appendText('z'), 1);
     }
 
     private void lengthAndClear() {
@@ -112,18 +60,5 @@ public final class TextTest {
         BackwardSearch x = new BackwardSearch();
         Make.append(x, text);
         checks.due("33: " + text, x.textError(), due);
-    }
-
-    private void textIsNoState() {
-        BackwardSearch x = Make.search("abc", "ab");
-        x.saveState(0);
-        Make.append(x, "pq");
-        x.undo();
-        checks.due("34: undo leaves the text", x.textLength(), 2);
-        x.loadState(0);
-        checks.due("37: loadState leaves the text", x.textLength(), 2);
-        x.takeWord();
-        x.undo();
-        checks.due("34: undo does not bring a text back", x.textLength(), 0);
     }
 }

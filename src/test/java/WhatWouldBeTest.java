@@ -1,4 +1,4 @@
-/** Promises 26 to 29: what a search or a look would find. */
+/** Promises 26 to 29: what a search or a look would find; see also BoundsOfAnswersTest. */
 public final class WhatWouldBeTest {
     private final Checks checks = new Checks("WhatWouldBeTest");
 
@@ -9,7 +9,6 @@ public final class WhatWouldBeTest {
         test.comparedWith();
         test.leavesTheSearchAlone();
         test.differenceAt();
-        test.differenceAtRefuses();
         test.checks.end();
     }
 
@@ -104,23 +103,5 @@ public final class WhatWouldBeTest {
         BackwardSearch middle = Make.search("axcaxx", "abc");
         checks.due("29: the middle one", middle.differenceAt(0), 1);
         checks.due("29: the greater one of two", middle.differenceAt(3), 2);
-    }
-
-    private void differenceAtRefuses() {
-        BackwardSearch x = Make.search("abcab", "abc");
-        checks.noSuchPlace("29: place -1", x, () -> x.differenceAt(-1));
-        checks.noSuchPlace("29: the word does not fit", x, () -> x.differenceAt(3));
-        checks.noSuchPlace("29: highest", x, () -> x.differenceAt(Integer.MAX_VALUE));
-        checks.noSuchPlace("29: lowest", x, () -> x.differenceAt(Integer.MIN_VALUE));
-        BackwardSearch longer = Make.search("ab", "abcdef");
-        checks.noSuchPlace("29: a longer word", longer, () -> longer.differenceAt(0));
-        BackwardSearch noWord = Make.search("abcab", "");
-        checks.badState("29: no word, place 0", noWord, () -> noWord.differenceAt(0));
-        checks.badState("29: no word, the length", noWord, () -> noWord.differenceAt(5));
-        checks.noSuchPlace("29: no word, further", noWord, () -> noWord.differenceAt(6));
-        checks.noSuchPlace("29: no word, place -1", noWord, () -> noWord.differenceAt(-1));
-        BackwardSearch empty = new BackwardSearch();
-        checks.badState("29: nothing at all", empty, () -> empty.differenceAt(0));
-        checks.noSuchPlace("29: nothing, place 1", empty, () -> empty.differenceAt(1));
     }
 }
