@@ -154,7 +154,7 @@ public final class BackwardSearch {
         return state.found.at(number);
     }
 
-    /** Returns how many places ahead of the search, where the word could begin, had no look. */
+    /** Returns at how many places below the search the word could begin, but had no look. */
     public int skippedPlaces() {
         return Math.min(state.place, state.beginnings()) - state.looks;
     }
@@ -275,7 +275,7 @@ public final class BackwardSearch {
         return text.size();
     }
 
-    /** Returns the index of the first character that is no letter; NONE if there is none. */
+    /** Returns the index of the first character that is not a to z; NONE if there is none. */
     public int textError() {
         for (int index = 0; index < text.size(); index++) {
             int code = text.at(index);
